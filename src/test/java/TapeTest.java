@@ -1,0 +1,298 @@
+/** Promises 1, 2, 3, 17: a new object, the tape, what is read from it with its FAULTS, what is told. */
+public final class TapeTest {
+  private static final Checks CHECKS = new Checks();
+
+  public static void main(String[] args) {
+    newObject();
+    feeds();
+    feedsFull();
+    buildsFull();
+    goodTexts();
+    tokens();
+    cannotStand();
+    theEnd();
+    tooMany();
+    alreadyThere();
+    noConstant();
+    firstFault();
+    faultsLeaveNothing();
+    CHECKS.end();
+  }
+
+  private static void newObject() {
+    LinkModels x = new LinkModels();
+    CHECKS.due("new told 0", x.told(0), 0);
+    CHECKS.due("new told 1", x.told(1), 0);
+    CHECKS.due("new told 2", x.told(2), 0);
+    CHECKS.due("told -1", x.told(-1), LinkModels.OUTSIDE);
+    CHECKS.due("told 3", x.told(3), LinkModels.OUTSIDE);
+    CHECKS.due("new defined", x.defined(0, 65), LinkModels.UNKNOWN);
+    CHECKS.due("new count", x.count(0, 9), LinkModels.UNKNOWN);
+    CHECKS.due("new name", x.name(0, 0), LinkModels.UNKNOWN);
+    CHECKS.due("new is", x.is(0, 65, 65), LinkModels.UNKNOWN);
+    CHECKS.due("new link", x.link(0, 0), LinkModels.UNKNOWN);
+    CHECKS.due("new copied", x.copied(0), LinkModels.UNKNOWN);
+    CHECKS.due("new changed", x.changed(0, 0, 0), LinkModels.UNKNOWN);
+    CHECKS.due("new share", Checks.share(x, 0), 1);
+  }
+
+  private static void feeds() {
+    LinkModels x = new LinkModels();
+    CHECKS.due("feed 0 bytes", x.feed(65, 0), LinkModels.OUTSIDE);
+    CHECKS.due("feed 9 bytes", x.feed(65, 9), LinkModels.OUTSIDE);
+    CHECKS.due("feed -1 bytes", x.feed(65, -1), LinkModels.OUTSIDE);
+    CHECKS.due("told after refused feeds", x.told(0), 0);
+    // Only the lowest bytes are taken, the highest of them first.
+    CHECKS.due("feed cl", x.feed(0x7777636cL, 2), 2);
+    CHECKS.due("feed ass A {}", x.feed(Checks.word("ass A {}"), 8), 10);
+    CHECKS.due("told 0", x.told(0), 10);
+    CHECKS.due("build", x.build(), 0);
+    CHECKS.due("told 0 after build", x.told(0), 0);
+    CHECKS.due("told 1 after build", x.told(1), 1);
+    CHECKS.due("name", x.name(0, 0), 65);
+    CHECKS.due("feed of high bytes", x.feed(-1L, 8), 8);
+    CHECKS.due("build of high bytes", x.build(), Checks.fault(1, 0));
+  }
+
+  private static void feedsFull() {
+    LinkModels x = new LinkModels();
+    for (int i = 1; i <= 99; i++) {
+      CHECKS.due("feed of blanks", x.feed(0x2020202020202020L, 8), 8 * i);
+    }
+    CHECKS.due("feed to 795", x.feed(0x2020200aL, 3), 795);
+    CHECKS.due("feed beyond", x.feed(0, 6), LinkModels.FULL);
+    CHECKS.due("feed beyond and outside", x.feed(0, 9), LinkModels.OUTSIDE);
+    CHECKS.due("told 795", x.told(0), 795);
+    CHECKS.due("feed to 800", x.feed(0x2020202020L, 5), 800);
+    CHECKS.due("feed behind 800", x.feed(32, 1), LinkModels.FULL);
+    CHECKS.due("800 blanks are a build", x.build(), 0);
+    CHECKS.due("without classes", x.count(0, 0), 0);
+    CHECKS.due("feed anew", x.feed(32, 1), 1);
+    CHECKS.due("the end behind 800", long800(), Checks.fault(1, 800));
+  }
+
+  private static int long800() {
+    return Checks.build(new LinkModels(), "class A {" + " ".repeat(791));
+  }
+
+  private static void buildsFull() {
+    LinkModels x = new LinkModels();
+    for (int i = 0; i < 5; i++) {
+      CHECKS.due("build", Checks.build(x, "class A" + i + "{}"), i);
+    }
+    CHECKS.due("sixth build", Checks.build(x, "class B {}"), LinkModels.FULL);
+    CHECKS.due("its tape is used up", x.told(0), 0);
+    CHECKS.due("sixth with a fault", Checks.build(x, "class"), LinkModels.FULL);
+    CHECKS.due("told 1", x.told(1), 5);
+    CHECKS.due("the fifth is still there", x.name(4, 0), Checks.name("A4"));
+    CHECKS.due("no sixth", x.name(5, 0), LinkModels.UNKNOWN);
+  }
+
+  private static void good(String text) {
+    CHECKS.due(text, Checks.build(new LinkModels(), text), 0);
+  }
+
+  private static void bad(String text, int fault, int place) {
+    CHECKS.due(text, Checks.build(new LinkModels(), text), Checks.fault(fault, place));
+  }
+
+  /** The fault is due where the mark ^ stands, which is taken out. */
+  private static void bad(int fault, String marked) {
+    int place = marked.indexOf('^');
+    bad(marked.substring(0, place) + marked.substring(place + 1), fault, place);
+  }
+
+  private static void goodTexts() {
+    good("");
+    good(" \n ");
+    good("class A{}");
+    good("face class A{}abstract class B{}final class C{}class D<B:A,A,A{}");
+    good("class A<A:A{}");
+    good("class A<ZZZZ:Z9,Z0Z{}");
+    good("class A{hidden static final int a=000007;static hidden void b(int,long);abstract A c(A,B);}");
+    good("class A{final A a;final hidden static long b;static void c();void d(int);hidden int e();}");
+    good("class A{final static int a=1;final hidden static int b=999999;}");
+    good("class A{int a;int a();int a(int);int a(long);int a(A);int a(B);int a(int,int);int a(int,long);}");
+    // "face" is no mark of members and stands not in quotes.
+    good("class A{int face;int face();}");
+    good("class A{int classes;int in;int longer;int abcdefgh;}");
+    good("class A{Aa;B9b;}");
+  }
+
+  private static void tokens() {
+    bad(1, "class ^ABCDE{}");
+    bad(1, "class A{int ^abcdefghi;}");
+    bad(1, "class A{static final int a=^1234567;}");
+    bad(1, "^classa{}");
+    good("classA{}");
+    bad(1, "class ^a{}");
+    bad(1, "class ^1{}");
+    bad(1, "class A^\t{}");
+    bad(1, "class A^\r{}");
+    bad(1, "class A{}^.");
+    bad(1, "class A{}^>");
+    bad(1, "class A{}^\u00ff");
+    bad(1, "class A{}^\u0000");
+    bad(1, "class A^b{}");
+    bad(1, "class A9^a{}");
+    bad(1, "class A{static final int a=12^a;}");
+    bad(1, "class A{static final int a=12^A;}");
+    bad(1, "class A{static final int a=12 ^3;}");
+  }
+
+  private static void cannotStand() {
+    bad(1, "^A");
+    bad(1, "^{");
+    bad(1, "^static class A{}");
+    bad(1, "face ^final class A{}");
+    bad(1, "face ^face class A{}");
+    bad(1, "final ^A{}");
+    bad(1, "class ^class{}");
+    bad(1, "class A ^A{}");
+    bad(1, "class A<^{}");
+    bad(1, "class A<B^<C{}");
+    bad(1, "class A<B^,C{}");
+    bad(1, "class A:^{}");
+    bad(1, "class A:B,^{}");
+    bad(1, "class A:B^;{}");
+    bad(1, "class A:B^<C{}");
+    bad(1, "class A:^int{}");
+    bad(1, "class A{^;}");
+    bad(1, "class A{^a;}");
+    bad(1, "class A{^class B{}}");
+    bad(1, "class A{static ^static int a;}");
+    bad(1, "class A{final hidden ^final int a;}");
+    bad(1, "class A{static hidden final ^static int a;}");
+    bad(1, "class A{static ^abstract int a();}");
+    bad(1, "class A{abstract ^static int a();}");
+    bad(1, "class A{abstract ^abstract int a();}");
+    bad(1, "class A{static hidden final ^abstract int a;}");
+    bad(1, "class A{static ^a;}");
+    bad(1, "class A{int ^static a;}");
+    for (String word : "class static hidden final abstract int long void A 1 ;".split(" ")) {
+      bad(1, "class A{int ^" + word + ";}");
+    }
+    bad(1, "class A{int a^,}");
+    bad(1, "class A{int a^}");
+    bad(1, "class A{void a^;}");
+    bad(1, "class A{void a^=1;}");
+    bad(1, "class A{static final void a^=1;}");
+    bad(1, "class A{abstract int a^;}");
+    bad(1, "class A{abstract int a^=1;}");
+    bad(1, "class A{final int a^();}");
+    bad(1, "class A{static final int a^(void);}");
+    bad(1, "class A{static final int a=^;}");
+    bad(1, "class A{static final int a=^a;}");
+    bad(1, "class A{static final int a=1^}");
+    bad(1, "class A{int a(^void);}");
+    bad(1, "class A{int a(int,^void);}");
+    bad(1, "class A{int a(int,int,^void);}");
+    bad(1, "class A{int a(^,);}");
+    bad(1, "class A{int a(int,^);}");
+    bad(1, "class A{int a(int,int,^);}");
+    bad(1, "class A{int a(int^;}");
+    bad(1, "class A{int a(int ^long);}");
+    bad(1, "class A{int a(^static);}");
+    bad(1, "class A{int a()^}");
+    bad(1, "class A{int a()^=1;}");
+    bad(1, "class A{}^}");
+  }
+
+  private static void theEnd() {
+    String whole = "final class A<B:C,D{static int a(int,long);static final int b=1;}";
+    for (int length = 1; length < whole.length(); length++) {
+      String text = whole.substring(0, length);
+      char last = text.charAt(length - 1);
+      // A cut inside a word makes another word, which is refused by itself or goes for the whole.
+      boolean inWord = Character.isLowerCase(last) && Character.isLowerCase(whole.charAt(length));
+      if (!inWord) {
+        bad(text, 1, length);
+        bad(text + " \n", 1, length + 2);
+      }
+    }
+  }
+
+  private static String classes(int count) {
+    StringBuilder text = new StringBuilder();
+    for (int i = 0; i < count; i++) {
+      text.append("class C").append(i).append("{}");
+    }
+    return text.toString();
+  }
+
+  private static String fields(int count) {
+    StringBuilder text = new StringBuilder();
+    for (int i = 0; i < count; i++) {
+      text.append("int ").append((char) ('a' + i)).append(';');
+    }
+    return text.toString();
+  }
+
+  private static void tooMany() {
+    good(classes(16));
+    good(classes(16) + "\n");
+    bad(2, classes(16) + "^class A{}");
+    bad(2, classes(16) + " ^face class C0{}");
+    bad(2, classes(16) + "^final");
+    bad(1, classes(16) + "^classes");
+    bad(1, classes(16) + "^}");
+    good("class A{" + fields(12) + "}");
+    bad(2, "class A{" + fields(12) + "^int z;}");
+    bad(2, "class A{" + fields(12) + "^static int a;}");
+    bad(2, "class A{" + fields(12) + "^A a;}");
+    bad(2, "class A{" + fields(12) + "^void");
+    bad(1, "class A{" + fields(12) + "^a;}");
+    bad(1, "class A{" + fields(12) + "^;}");
+    bad(1, "class A{" + fields(12) + "^ABCDE a;}");
+    good("class A{" + fields(12) + "}class B{" + fields(12) + "}");
+    bad(2, "class A:B,C,D,^E{}");
+    bad(2, "class A:B,B,B,^B{}");
+    bad(1, "class A:B,C,D,^ABCDE{}");
+    bad(2, "class A{int a(int,int,^int);}");
+    bad(2, "class A{int a(int,int,^A);}");
+    bad(1, "class A{int a(int,int,^ABCDE);}");
+  }
+
+  private static void alreadyThere() {
+    bad(3, "class A{}class ^A{}");
+    bad(3, "class A{}class B{}face class ^A{}");
+    bad(3, "class A{int a;long a^;}");
+    bad(3, "class A{int a;static final int a^=1;}");
+    bad(3, "class A{static final int a=1;A a^;}");
+    bad(3, "class A{int a();static long a(^);}");
+    bad(3, "class A{int a(int,A);void a(int,A^);}");
+    good("class A{int a;}class B{int a;int a();}class C{int a();}");
+  }
+
+  private static void noConstant() {
+    bad(4, "class A{int a^=1;}");
+    bad(4, "class A{static int a^=1;}");
+    bad(4, "class A{final int a^=1;}");
+    bad(4, "class A{hidden final int a^=1;}");
+    bad(4, "class A{static final long a^=1;}");
+    bad(4, "class A{static final A a^=1;}");
+    bad(4, "class A{static final long a^=b;}");
+    bad(3, "class A{int a;int a^=1;}");
+    bad(1, "class A{int a;void a^=1;}");
+  }
+
+  private static void firstFault() {
+    bad(3, "class A{int a;int a^;void b;}class A{}");
+    bad(1, "class A{void b^;int a;int a;}class A{}");
+    bad(4, "class A{int b^=1;int a;int a;}.");
+  }
+
+  private static void faultsLeaveNothing() {
+    LinkModels x = new LinkModels();
+    CHECKS.due("fault", Checks.build(x, "class A:B,B{int a;int b;}class B<A{} class"), Checks.fault(1, 42));
+    CHECKS.due("the tape is used up", x.told(0), 0);
+    CHECKS.due("no build", x.told(1), 0);
+    CHECKS.due("nothing known", x.count(0, 0), LinkModels.UNKNOWN);
+    CHECKS.due("good", Checks.build(x, "class C{}class A{int c();}"), 0);
+    CHECKS.due("classes", x.count(0, 0), 2);
+    CHECKS.due("fields", x.count(0, 1), 0);
+    CHECKS.due("methods", x.count(0, 2), 1);
+    CHECKS.due("A is defined", x.defined(0, 65), 1);
+    CHECKS.due("B is not there", x.defined(0, 66), -11);
+  }
+}

@@ -1,8 +1,9 @@
 /**
  * Builds of classes read from texts, and uses of their members linked against one of them.
  *
- * <p>Inside, a member is told by its SPOT: STRIDE times the place of its class, and 1 more than its
- * place in it; the spot of place 0 - 1 is that of the class alone. An answer that is no spot is below 0.
+ * <p>Inside, a member is told by one number, its spot: STRIDE times the place of its class, its place
+ * among that class's members, and 1. So what is left for 0 tells the class alone, where a USE has no
+ * member, and an answer below 0 is never a spot.
  */
 public final class LinkModels {
   public static final int NONE = -1, UNKNOWN = -2, OUTSIDE = -3, STATE = -4, FULL = -5;
@@ -976,7 +977,7 @@ public final class LinkModels {
       return 0;
     }
 
-    /** Sets the line of one class behind another's: whose classes are there already stay in front. */
+    /** Sets another class's line behind this one; who stands in it already keeps the place ahead. */
     private void joinLine(int c, int other) {
       if (other == NONE) {
         return;

@@ -117,6 +117,7 @@ public final class TapeTest {
     good("class A{int face;int face();}");
     good("class A{int classes;int in;int longer;int abcdefgh;}");
     good("class A{Aa;B9b;}");
+    good("class AZ09{int azza;static final int z=109;}");
   }
 
   private static void tokens() {
@@ -294,5 +295,18 @@ public final class TapeTest {
     CHECKS.due("methods", x.count(0, 2), 1);
     CHECKS.due("A is defined", x.defined(0, 65), 1);
     CHECKS.due("B is not there", x.defined(0, 66), -11);
+    // Bytes of an earlier tape do not go on behind the end of this one.
+    CHECKS.due("a longer tape", Checks.build(x, "class ABCD{}"), 1);
+    CHECKS.due("a shorter tape", Checks.build(x, "class A"), Checks.fault(1, 7));
+    // Classes, FACES and members of a refused text are none of the next one's.
+    String refused = "face class A:A{}face class F{int a();}class B:F{}class G{int g;}";
+    CHECKS.due("refused", Checks.build(x, refused + " class"), Checks.fault(1, refused.length() + 6));
+    CHECKS.due("good", Checks.build(x, "face class A{}face class F{int a();}class B{}"), 2);
+    CHECKS.due("no class more", x.name(2, 3), LinkModels.NONE);
+    CHECKS.due("no field", x.count(2, 1), 0);
+    CHECKS.due("no circle", x.defined(2, 65), 1);
+    CHECKS.due("no face", x.is(2, 66, 70), 0);
+    x.use(4, 66, 66, 'a', 0, 0, 0);
+    CHECKS.due("no method", x.link(2, 0), -19);
   }
 }

@@ -284,7 +284,8 @@ public final class UsesTest {
 
   private static void done(LinkModels x, int use, String receiver, int want, int place) {
     CHECKS.due("done " + use + " " + receiver, x.done(0, use, Checks.name(receiver)), want);
-    CHECKS.due("doneMember " + use + " " + receiver, x.doneMember(0, use, Checks.name(receiver)), want < 0 ? want : place);
+    int member = x.doneMember(0, use, Checks.name(receiver));
+    CHECKS.due("doneMember " + use + " " + receiver, member, want < 0 ? want : place);
   }
 
   private static void doneByClasses() {
@@ -427,6 +428,11 @@ public final class UsesTest {
     use(y, GET, "A", "A", "b");
     CHECKS.due("another place", y.changed(0, 1, 0), 0);
     CHECKS.due("a class by name, not by place", y.changed(0, 2, 0), LinkModels.NONE);
+    LinkModels z = Checks.model("class A{int a;}", "class A{}", "");
+    use(z, GET, "A", "A", "a");
+    CHECKS.due("an error and none", z.changed(0, 1, 0), 0);
+    CHECKS.due("none and an error", z.changed(1, 0, 0), 0);
+    CHECKS.due("another error", z.changed(1, 2, 0), 0);
   }
 
   private static void share() {
@@ -466,5 +472,11 @@ public final class UsesTest {
     CHECKS.due("field", x.member(0, 1), 1);
     CHECKS.due("no field", x.link(0, 2), -17);
     done(x, 0, "A", 15, 0);
+    LinkModels y = Checks.model("face class A:B,Z{}face class B:C,C,C{}face class C:D,D,D{}face class D:E,E,E{}"
+        + "face class E{}face class Z{static int a;int b();}");
+    use(y, GET_STATIC, "A", "A", "a");
+    use(y, CALL_FACE, "A", "A", "b");
+    CHECKS.due("field behind many ways", y.link(0, 0), 5);
+    CHECKS.due("method behind many ways", y.member(0, 1), 1);
   }
 }

@@ -268,7 +268,8 @@ public final class LinkModels {
     if (u.kind != Use.CALL && u.kind != Use.CALL_FACE) {
       return STATE;
     }
-    return Linker.performed(b, u, receiver);
+    int spot = Linker.linked(b, u);
+    return spot < 0 ? spot : Linker.performed(b, u, spot, receiver);
   }
 
   private static int classOf(int spot) {
@@ -824,15 +825,12 @@ public final class LinkModels {
 
     int methodIn(int c, Signature s) {
       for (int spot = c * STRIDE + 1; spot <= c * STRIDE + memberCounts[c]; spot++) {
-        if (words[spot] == s.word && has(spot, METHOD) && hasTypes(spot, s)) {
+        boolean named = words[spot] == s.word && (memberMarks[spot] & METHOD) != 0;
+        if (named && typeCounts[spot] == s.typeCount && firsts[spot] == s.first && seconds[spot] == s.second) {
           return spot;
         }
       }
       return NONE;
-    }
-
-    private boolean hasTypes(int spot, Signature s) {
-      return typeCounts[spot] == s.typeCount && firsts[spot] == s.first && seconds[spot] == s.second;
     }
 
     int fieldFrom(int c, long word) {
@@ -1078,11 +1076,7 @@ public final class LinkModels {
       return b.firstMethodOf(Integer.bitCount(bodies) == 1 ? bodies : faces, owner, s);
     }
 
-    static int performed(Build b, Use u, int receiver) {
-      int spot = linked(b, u);
-      if (spot < 0) {
-        return spot;
-      }
+    static int performed(Build b, Use u, int spot, int receiver) {
       int place = b.placeOf(receiver);
       if (b.errorAt(place) != 0) {
         return failed(b.errorAt(place));

@@ -88,115 +88,101 @@ public final class TapeTest {
     CHECKS.due("no sixth", x.name(5, 0), LinkModels.UNKNOWN);
   }
 
-  private static void good(String text) {
-    CHECKS.due(text, Checks.build(new LinkModels(), text), 0);
-  }
-
-  private static void bad(String text, int fault, int place) {
-    CHECKS.due(text, Checks.build(new LinkModels(), text), Checks.fault(fault, place));
-  }
-
-  /** The fault is due where the mark ^ stands, which is taken out. */
-  private static void bad(int fault, String marked) {
-    int place = marked.indexOf('^');
-    bad(marked.substring(0, place) + marked.substring(place + 1), fault, place);
-  }
-
   private static void goodTexts() {
-    good("");
-    good(" \n ");
-    good("class A{}");
-    good("face class A{}abstract class B{}final class C{}class D<B:A,A,A{}");
-    good("class A<A:A{}");
-    good("class A<ZZZZ:Z9,Z0Z{}");
-    good("class A{hidden static final int a=000007;static hidden void b(int,long);abstract A c(A,B);}");
-    good("class A{final A a;final hidden static long b;static void c();void d(int);hidden int e();}");
-    good("class A{final static int a=1;final hidden static int b=999999;}");
-    good("class A{int a;int a();int a(int);int a(long);int a(A);int a(B);int a(int,int);int a(int,long);}");
+    CHECKS.good("");
+    CHECKS.good(" \n ");
+    CHECKS.good("class A{}");
+    CHECKS.good("face class A{}abstract class B{}final class C{}class D<B:A,A,A{}");
+    CHECKS.good("class A<A:A{}");
+    CHECKS.good("class A<ZZZZ:Z9,Z0Z{}");
+    CHECKS.good("class A{hidden static final int a=000007;static hidden void b(int,long);abstract A c(A,B);}");
+    CHECKS.good("class A{final A a;final hidden static long b;static void c();void d(int);hidden int e();}");
+    CHECKS.good("class A{final static int a=1;final hidden static int b=999999;}");
+    CHECKS.good("class A{int a;int a();int a(int);int a(long);int a(A);int a(B);int a(int,int);int a(int,long);}");
     // "face" is no mark of members and stands not in quotes.
-    good("class A{int face;int face();}");
-    good("class A{int classes;int in;int longer;int abcdefgh;}");
-    good("class A{Aa;B9b;}");
-    good("class AZ09{int azza;static final int z=109;}");
+    CHECKS.good("class A{int face;int face();}");
+    CHECKS.good("class A{int classes;int in;int longer;int abcdefgh;}");
+    CHECKS.good("class A{Aa;B9b;}");
+    CHECKS.good("class AZ09{int azza;static final int z=109;}");
   }
 
   private static void tokens() {
-    bad(1, "class ^ABCDE{}");
-    bad(1, "class A{int ^abcdefghi;}");
-    bad(1, "class A{static final int a=^1234567;}");
-    bad(1, "^classa{}");
-    good("classA{}");
-    bad(1, "class ^a{}");
-    bad(1, "class ^1{}");
-    bad(1, "class A^\t{}");
-    bad(1, "class A^\r{}");
-    bad(1, "class A{}^.");
-    bad(1, "class A{}^>");
-    bad(1, "class A{}^\u00ff");
-    bad(1, "class A{}^\u0000");
-    bad(1, "class A^b{}");
-    bad(1, "class A9^a{}");
-    bad(1, "class A{static final int a=12^a;}");
-    bad(1, "class A{static final int a=12^A;}");
-    bad(1, "class A{static final int a=12 ^3;}");
+    CHECKS.bad(1, "class ^ABCDE{}");
+    CHECKS.bad(1, "class A{int ^abcdefghi;}");
+    CHECKS.bad(1, "class A{static final int a=^1234567;}");
+    CHECKS.bad(1, "^classa{}");
+    CHECKS.good("classA{}");
+    CHECKS.bad(1, "class ^a{}");
+    CHECKS.bad(1, "class ^1{}");
+    CHECKS.bad(1, "class A^\t{}");
+    CHECKS.bad(1, "class A^\r{}");
+    CHECKS.bad(1, "class A{}^.");
+    CHECKS.bad(1, "class A{}^>");
+    CHECKS.bad(1, "class A{}^\u00ff");
+    CHECKS.bad(1, "class A{}^\u0000");
+    CHECKS.bad(1, "class A^b{}");
+    CHECKS.bad(1, "class A9^a{}");
+    CHECKS.bad(1, "class A{static final int a=12^a;}");
+    CHECKS.bad(1, "class A{static final int a=12^A;}");
+    CHECKS.bad(1, "class A{static final int a=12 ^3;}");
   }
 
   private static void cannotStand() {
-    bad(1, "^A");
-    bad(1, "^{");
-    bad(1, "^static class A{}");
-    bad(1, "face ^final class A{}");
-    bad(1, "face ^face class A{}");
-    bad(1, "final ^A{}");
-    bad(1, "class ^class{}");
-    bad(1, "class A ^A{}");
-    bad(1, "class A<^{}");
-    bad(1, "class A<B^<C{}");
-    bad(1, "class A<B^,C{}");
-    bad(1, "class A:^{}");
-    bad(1, "class A:B,^{}");
-    bad(1, "class A:B^;{}");
-    bad(1, "class A:B^<C{}");
-    bad(1, "class A:^int{}");
-    bad(1, "class A{^;}");
-    bad(1, "class A{^a;}");
-    bad(1, "class A{^class B{}}");
-    bad(1, "class A{static ^static int a;}");
-    bad(1, "class A{final hidden ^final int a;}");
-    bad(1, "class A{static hidden final ^static int a;}");
-    bad(1, "class A{static ^abstract int a();}");
-    bad(1, "class A{abstract ^static int a();}");
-    bad(1, "class A{abstract ^abstract int a();}");
-    bad(1, "class A{static hidden final ^abstract int a;}");
-    bad(1, "class A{static ^a;}");
-    bad(1, "class A{int ^static a;}");
+    CHECKS.bad(1, "^A");
+    CHECKS.bad(1, "^{");
+    CHECKS.bad(1, "^static class A{}");
+    CHECKS.bad(1, "face ^final class A{}");
+    CHECKS.bad(1, "face ^face class A{}");
+    CHECKS.bad(1, "final ^A{}");
+    CHECKS.bad(1, "class ^class{}");
+    CHECKS.bad(1, "class A ^A{}");
+    CHECKS.bad(1, "class A<^{}");
+    CHECKS.bad(1, "class A<B^<C{}");
+    CHECKS.bad(1, "class A<B^,C{}");
+    CHECKS.bad(1, "class A:^{}");
+    CHECKS.bad(1, "class A:B,^{}");
+    CHECKS.bad(1, "class A:B^;{}");
+    CHECKS.bad(1, "class A:B^<C{}");
+    CHECKS.bad(1, "class A:^int{}");
+    CHECKS.bad(1, "class A{^;}");
+    CHECKS.bad(1, "class A{^a;}");
+    CHECKS.bad(1, "class A{^class B{}}");
+    CHECKS.bad(1, "class A{static ^static int a;}");
+    CHECKS.bad(1, "class A{final hidden ^final int a;}");
+    CHECKS.bad(1, "class A{static hidden final ^static int a;}");
+    CHECKS.bad(1, "class A{static ^abstract int a();}");
+    CHECKS.bad(1, "class A{abstract ^static int a();}");
+    CHECKS.bad(1, "class A{abstract ^abstract int a();}");
+    CHECKS.bad(1, "class A{static hidden final ^abstract int a;}");
+    CHECKS.bad(1, "class A{static ^a;}");
+    CHECKS.bad(1, "class A{int ^static a;}");
     for (String word : "class static hidden final abstract int long void A 1 ;".split(" ")) {
-      bad(1, "class A{int ^" + word + ";}");
+      CHECKS.bad(1, "class A{int ^" + word + ";}");
     }
-    bad(1, "class A{int a^,}");
-    bad(1, "class A{int a^}");
-    bad(1, "class A{void a^;}");
-    bad(1, "class A{void a^=1;}");
-    bad(1, "class A{static final void a^=1;}");
-    bad(1, "class A{abstract int a^;}");
-    bad(1, "class A{abstract int a^=1;}");
-    bad(1, "class A{final int a^();}");
-    bad(1, "class A{static final int a^(void);}");
-    bad(1, "class A{static final int a=^;}");
-    bad(1, "class A{static final int a=^a;}");
-    bad(1, "class A{static final int a=1^}");
-    bad(1, "class A{int a(^void);}");
-    bad(1, "class A{int a(int,^void);}");
-    bad(1, "class A{int a(int,int,^void);}");
-    bad(1, "class A{int a(^,);}");
-    bad(1, "class A{int a(int,^);}");
-    bad(1, "class A{int a(int,int,^);}");
-    bad(1, "class A{int a(int^;}");
-    bad(1, "class A{int a(int ^long);}");
-    bad(1, "class A{int a(^static);}");
-    bad(1, "class A{int a()^}");
-    bad(1, "class A{int a()^=1;}");
-    bad(1, "class A{}^}");
+    CHECKS.bad(1, "class A{int a^,}");
+    CHECKS.bad(1, "class A{int a^}");
+    CHECKS.bad(1, "class A{void a^;}");
+    CHECKS.bad(1, "class A{void a^=1;}");
+    CHECKS.bad(1, "class A{static final void a^=1;}");
+    CHECKS.bad(1, "class A{abstract int a^;}");
+    CHECKS.bad(1, "class A{abstract int a^=1;}");
+    CHECKS.bad(1, "class A{final int a^();}");
+    CHECKS.bad(1, "class A{static final int a^(void);}");
+    CHECKS.bad(1, "class A{static final int a=^;}");
+    CHECKS.bad(1, "class A{static final int a=^a;}");
+    CHECKS.bad(1, "class A{static final int a=1^}");
+    CHECKS.bad(1, "class A{int a(^void);}");
+    CHECKS.bad(1, "class A{int a(int,^void);}");
+    CHECKS.bad(1, "class A{int a(int,int,^void);}");
+    CHECKS.bad(1, "class A{int a(^,);}");
+    CHECKS.bad(1, "class A{int a(int,^);}");
+    CHECKS.bad(1, "class A{int a(int,int,^);}");
+    CHECKS.bad(1, "class A{int a(int^;}");
+    CHECKS.bad(1, "class A{int a(int ^long);}");
+    CHECKS.bad(1, "class A{int a(^static);}");
+    CHECKS.bad(1, "class A{int a()^}");
+    CHECKS.bad(1, "class A{int a()^=1;}");
+    CHECKS.bad(1, "class A{}^}");
   }
 
   private static void theEnd() {
@@ -207,8 +193,8 @@ public final class TapeTest {
       // A cut inside a word makes another word, which is refused by itself or goes for the whole.
       boolean inWord = Character.isLowerCase(last) && Character.isLowerCase(whole.charAt(length));
       if (!inWord) {
-        bad(text, 1, length);
-        bad(text + " \n", 1, length + 2);
+        CHECKS.bad(1, text + "^");
+        CHECKS.bad(1, text + " \n^");
       }
     }
   }
@@ -230,57 +216,57 @@ public final class TapeTest {
   }
 
   private static void tooMany() {
-    good(classes(16));
-    good(classes(16) + "\n");
-    bad(2, classes(16) + "^class A{}");
-    bad(2, classes(16) + " ^face class C0{}");
-    bad(2, classes(16) + "^final");
-    bad(1, classes(16) + "^classes");
-    bad(1, classes(16) + "^}");
-    good("class A{" + fields(12) + "}");
-    bad(2, "class A{" + fields(12) + "^int z;}");
-    bad(2, "class A{" + fields(12) + "^static int a;}");
-    bad(2, "class A{" + fields(12) + "^A a;}");
-    bad(2, "class A{" + fields(12) + "^void");
-    bad(1, "class A{" + fields(12) + "^a;}");
-    bad(1, "class A{" + fields(12) + "^;}");
-    bad(1, "class A{" + fields(12) + "^ABCDE a;}");
-    good("class A{" + fields(12) + "}class B{" + fields(12) + "}");
-    bad(2, "class A:B,C,D,^E{}");
-    bad(2, "class A:B,B,B,^B{}");
-    bad(1, "class A:B,C,D,^ABCDE{}");
-    bad(2, "class A{int a(int,int,^int);}");
-    bad(2, "class A{int a(int,int,^A);}");
-    bad(1, "class A{int a(int,int,^ABCDE);}");
+    CHECKS.good(classes(16));
+    CHECKS.good(classes(16) + "\n");
+    CHECKS.bad(2, classes(16) + "^class A{}");
+    CHECKS.bad(2, classes(16) + " ^face class C0{}");
+    CHECKS.bad(2, classes(16) + "^final");
+    CHECKS.bad(1, classes(16) + "^classes");
+    CHECKS.bad(1, classes(16) + "^}");
+    CHECKS.good("class A{" + fields(12) + "}");
+    CHECKS.bad(2, "class A{" + fields(12) + "^int z;}");
+    CHECKS.bad(2, "class A{" + fields(12) + "^static int a;}");
+    CHECKS.bad(2, "class A{" + fields(12) + "^A a;}");
+    CHECKS.bad(2, "class A{" + fields(12) + "^void");
+    CHECKS.bad(1, "class A{" + fields(12) + "^a;}");
+    CHECKS.bad(1, "class A{" + fields(12) + "^;}");
+    CHECKS.bad(1, "class A{" + fields(12) + "^ABCDE a;}");
+    CHECKS.good("class A{" + fields(12) + "}class B{" + fields(12) + "}");
+    CHECKS.bad(2, "class A:B,C,D,^E{}");
+    CHECKS.bad(2, "class A:B,B,B,^B{}");
+    CHECKS.bad(1, "class A:B,C,D,^ABCDE{}");
+    CHECKS.bad(2, "class A{int a(int,int,^int);}");
+    CHECKS.bad(2, "class A{int a(int,int,^A);}");
+    CHECKS.bad(1, "class A{int a(int,int,^ABCDE);}");
   }
 
   private static void alreadyThere() {
-    bad(3, "class A{}class ^A{}");
-    bad(3, "class A{}class B{}face class ^A{}");
-    bad(3, "class A{int a;long a^;}");
-    bad(3, "class A{int a;static final int a^=1;}");
-    bad(3, "class A{static final int a=1;A a^;}");
-    bad(3, "class A{int a();static long a(^);}");
-    bad(3, "class A{int a(int,A);void a(int,A^);}");
-    good("class A{int a;}class B{int a;int a();}class C{int a();}");
+    CHECKS.bad(3, "class A{}class ^A{}");
+    CHECKS.bad(3, "class A{}class B{}face class ^A{}");
+    CHECKS.bad(3, "class A{int a;long a^;}");
+    CHECKS.bad(3, "class A{int a;static final int a^=1;}");
+    CHECKS.bad(3, "class A{static final int a=1;A a^;}");
+    CHECKS.bad(3, "class A{int a();static long a(^);}");
+    CHECKS.bad(3, "class A{int a(int,A);void a(int,A^);}");
+    CHECKS.good("class A{int a;}class B{int a;int a();}class C{int a();}");
   }
 
   private static void noConstant() {
-    bad(4, "class A{int a^=1;}");
-    bad(4, "class A{static int a^=1;}");
-    bad(4, "class A{final int a^=1;}");
-    bad(4, "class A{hidden final int a^=1;}");
-    bad(4, "class A{static final long a^=1;}");
-    bad(4, "class A{static final A a^=1;}");
-    bad(4, "class A{static final long a^=b;}");
-    bad(3, "class A{int a;int a^=1;}");
-    bad(1, "class A{int a;void a^=1;}");
+    CHECKS.bad(4, "class A{int a^=1;}");
+    CHECKS.bad(4, "class A{static int a^=1;}");
+    CHECKS.bad(4, "class A{final int a^=1;}");
+    CHECKS.bad(4, "class A{hidden final int a^=1;}");
+    CHECKS.bad(4, "class A{static final long a^=1;}");
+    CHECKS.bad(4, "class A{static final A a^=1;}");
+    CHECKS.bad(4, "class A{static final long a^=b;}");
+    CHECKS.bad(3, "class A{int a;int a^=1;}");
+    CHECKS.bad(1, "class A{int a;void a^=1;}");
   }
 
   private static void firstFault() {
-    bad(3, "class A{int a;int a^;void b;}class A{}");
-    bad(1, "class A{void b^;int a;int a;}class A{}");
-    bad(4, "class A{int b^=1;int a;int a;}.");
+    CHECKS.bad(3, "class A{int a;int a^;void b;}class A{}");
+    CHECKS.bad(1, "class A{void b^;int a;int a;}class A{}");
+    CHECKS.bad(4, "class A{int b^=1;int a;int a;}.");
   }
 
   private static void faultsLeaveNothing() {

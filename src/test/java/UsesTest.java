@@ -27,31 +27,6 @@ public final class UsesTest {
     CHECKS.end();
   }
 
-  private static int use(LinkModels x, int kind, String caller, String owner, String word, String... types) {
-    int first = types.length > 0 ? type(types[0]) : 77;
-    int second = types.length > 1 ? type(types[1]) : 77;
-    return x.use(kind, Checks.name(caller), Checks.name(owner), Checks.word(word), types.length, first, second);
-  }
-
-  private static int type(String text) {
-    return text.equals("int") ? 0 : text.equals("long") ? 1 : Checks.name(text);
-  }
-
-  /** In a text the use LINKS to a place of a class; where the class is below 0, to that ERROR. */
-  private static void links(String text, int want, int place, int kind, String... told) {
-    LinkModels x = Checks.model(text);
-    String[] types = new String[told.length - 3];
-    System.arraycopy(told, 3, types, 0, types.length);
-    int use = use(x, kind, told[0], told[1], told[2], types);
-    String what = text + " kind " + kind + " " + String.join(" ", told);
-    CHECKS.due(what + " link", x.link(0, use), want);
-    CHECKS.due(what + " member", x.member(0, use), want < 0 ? want : place);
-  }
-
-  private static void fails(String text, int error, int kind, String... told) {
-    links(text, -10 - error, 0, kind, told);
-  }
-
   private static void uses() {
     LinkModels x = new LinkModels();
     CHECKS.due("kind -1", x.use(-1, 65, 65, 0, 0, 0, 0), LinkModels.OUTSIDE);
@@ -73,7 +48,7 @@ public final class UsesTest {
 
   private static void unknowns() {
     LinkModels x = Checks.model("class A{static final int a=1;}");
-    use(x, GET_STATIC, "A", "A", "a");
+    Checks.use(x, GET_STATIC, "A", "A", "a");
     int[][] wrong = {{1, 0}, {-1, 0}, {0, 1}, {0, -1}, {5, 40}};
     for (int[] w : wrong) {
       CHECKS.due("link", x.link(w[0], w[1]), LinkModels.UNKNOWN);
@@ -92,28 +67,28 @@ public final class UsesTest {
   private static void linkedClasses() {
     String text = "class A{}class B<C{}class D<D{}class E<F{}face class F{}class G<H{}final class H{}";
     for (int kind = GET; kind <= CAST; kind++) {
-      fails(text, 1, kind, "Z", "B", "a");
-      fails(text, 2, kind, "B", "D", "a");
-      fails(text, 3, kind, "D", "B", "a");
-      fails(text, 4, kind, "E", "B", "a");
-      fails(text, 5, kind, "G", "B", "a");
-      fails(text, 2, kind, "A", "Z", "a");
-      fails(text, 2, kind, "A", "B", "a");
-      fails(text, 3, kind, "A", "D", "a");
-      fails(text, 4, kind, "A", "E", "a");
-      fails(text, 5, kind, "A", "G", "a");
+      CHECKS.fails(text, 1, kind, "Z", "B", "a");
+      CHECKS.fails(text, 2, kind, "B", "D", "a");
+      CHECKS.fails(text, 3, kind, "D", "B", "a");
+      CHECKS.fails(text, 4, kind, "E", "B", "a");
+      CHECKS.fails(text, 5, kind, "G", "B", "a");
+      CHECKS.fails(text, 2, kind, "A", "Z", "a");
+      CHECKS.fails(text, 2, kind, "A", "B", "a");
+      CHECKS.fails(text, 3, kind, "A", "D", "a");
+      CHECKS.fails(text, 4, kind, "A", "E", "a");
+      CHECKS.fails(text, 5, kind, "A", "G", "a");
     }
   }
 
   private static void makes() {
     String text = "class A{}abstract class B{}face class F{}final class C{}";
-    links(text, 0, -1, MAKE, "B", "A", "");
-    links(text, 3, -1, MAKE, "F", "C", "x", "int", "int");
-    fails(text, 6, MAKE, "A", "B", "");
-    fails(text, 6, MAKE, "A", "F", "");
-    links(text, 1, -1, CAST, "A", "B", "");
-    links(text, 2, -1, CAST, "A", "F", "");
-    links(text, 0, -1, CAST, "A", "A", "x");
+    CHECKS.links(text, 0, -1, MAKE, "B", "A", "");
+    CHECKS.links(text, 3, -1, MAKE, "F", "C", "x", "int", "int");
+    CHECKS.fails(text, 6, MAKE, "A", "B", "");
+    CHECKS.fails(text, 6, MAKE, "A", "F", "");
+    CHECKS.links(text, 1, -1, CAST, "A", "B", "");
+    CHECKS.links(text, 2, -1, CAST, "A", "F", "");
+    CHECKS.links(text, 0, -1, CAST, "A", "A", "x");
   }
 
   private static void fields() {
@@ -121,87 +96,87 @@ public final class UsesTest {
     String text = "class A<B:F,G{int a;}class B:K{int a;int e;int d;}"
         + "face class F:H{static int b;}face class G{static int b;static int c;static int d;}"
         + "face class H{static int c;}face class K{static int e;static int f;static int d;}class X{}";
-    links(text, 0, 0, GET, "X", "A", "a");
-    links(text, 1, 0, GET, "X", "B", "a");
-    links(text, 2, 0, GET_STATIC, "X", "A", "b");
-    links(text, 4, 0, GET_STATIC, "X", "A", "c");
-    links(text, 3, 2, GET_STATIC, "X", "A", "d");
-    links(text, 1, 1, PUT, "X", "A", "e");
-    links(text, 5, 1, PUT_STATIC, "X", "A", "f");
-    links(text, 4, 0, GET_STATIC, "X", "F", "c");
-    fails(text, 7, GET, "X", "H", "b");
-    fails(text, 7, GET, "X", "A", "x");
-    fails(text, 7, GET_STATIC, "A", "X", "a");
-    fails("class A{int a();}", 7, GET, "A", "A", "a");
+    CHECKS.links(text, 0, 0, GET, "X", "A", "a");
+    CHECKS.links(text, 1, 0, GET, "X", "B", "a");
+    CHECKS.links(text, 2, 0, GET_STATIC, "X", "A", "b");
+    CHECKS.links(text, 4, 0, GET_STATIC, "X", "A", "c");
+    CHECKS.links(text, 3, 2, GET_STATIC, "X", "A", "d");
+    CHECKS.links(text, 1, 1, PUT, "X", "A", "e");
+    CHECKS.links(text, 5, 1, PUT_STATIC, "X", "A", "f");
+    CHECKS.links(text, 4, 0, GET_STATIC, "X", "F", "c");
+    CHECKS.fails(text, 7, GET, "X", "H", "b");
+    CHECKS.fails(text, 7, GET, "X", "A", "x");
+    CHECKS.fails(text, 7, GET_STATIC, "A", "X", "a");
+    CHECKS.fails("class A{int a();}", 7, GET, "A", "A", "a");
     // Types of a USE of a FIELD do not count.
-    links(text, 0, 0, GET, "X", "A", "a", "int", "long");
+    CHECKS.links(text, 0, 0, GET, "X", "A", "a", "int", "long");
   }
 
   private static void fieldAccess() {
     String text = "class A{hidden int a;hidden static int b;int c;static int d;final int e;static final int f;"
         + "static final int g=1;hidden final int h;}class B<A{}";
-    links(text, 0, 0, GET, "A", "B", "a");
-    fails(text, 8, GET, "B", "A", "a");
-    fails(text, 8, GET, "B", "B", "a");
-    fails(text, 8, GET_STATIC, "B", "A", "a");
-    fails(text, 8, GET, "B", "A", "b");
-    fails(text, 4, GET_STATIC, "A", "A", "a");
-    fails(text, 4, GET, "A", "A", "b");
-    fails(text, 4, GET_STATIC, "B", "A", "c");
-    fails(text, 4, PUT_STATIC, "B", "A", "c");
-    fails(text, 4, GET, "B", "A", "d");
-    fails(text, 4, PUT, "B", "A", "d");
-    links(text, 0, 3, PUT_STATIC, "B", "B", "d");
-    links(text, 0, 4, GET, "B", "A", "e");
-    fails(text, 8, PUT, "B", "A", "e");
-    fails(text, 4, PUT_STATIC, "B", "A", "e");
-    links(text, 0, 4, PUT, "A", "B", "e");
-    fails(text, 8, PUT_STATIC, "B", "A", "f");
-    fails(text, 4, PUT, "B", "A", "f");
-    links(text, 0, 5, PUT_STATIC, "A", "A", "f");
-    fails(text, 8, PUT_STATIC, "B", "A", "g");
-    links(text, 0, 6, PUT_STATIC, "A", "A", "g");
-    fails(text, 8, PUT, "B", "A", "h");
+    CHECKS.links(text, 0, 0, GET, "A", "B", "a");
+    CHECKS.fails(text, 8, GET, "B", "A", "a");
+    CHECKS.fails(text, 8, GET, "B", "B", "a");
+    CHECKS.fails(text, 8, GET_STATIC, "B", "A", "a");
+    CHECKS.fails(text, 8, GET, "B", "A", "b");
+    CHECKS.fails(text, 4, GET_STATIC, "A", "A", "a");
+    CHECKS.fails(text, 4, GET, "A", "A", "b");
+    CHECKS.fails(text, 4, GET_STATIC, "B", "A", "c");
+    CHECKS.fails(text, 4, PUT_STATIC, "B", "A", "c");
+    CHECKS.fails(text, 4, GET, "B", "A", "d");
+    CHECKS.fails(text, 4, PUT, "B", "A", "d");
+    CHECKS.links(text, 0, 3, PUT_STATIC, "B", "B", "d");
+    CHECKS.links(text, 0, 4, GET, "B", "A", "e");
+    CHECKS.fails(text, 8, PUT, "B", "A", "e");
+    CHECKS.fails(text, 4, PUT_STATIC, "B", "A", "e");
+    CHECKS.links(text, 0, 4, PUT, "A", "B", "e");
+    CHECKS.fails(text, 8, PUT_STATIC, "B", "A", "f");
+    CHECKS.fails(text, 4, PUT, "B", "A", "f");
+    CHECKS.links(text, 0, 5, PUT_STATIC, "A", "A", "f");
+    CHECKS.fails(text, 8, PUT_STATIC, "B", "A", "g");
+    CHECKS.links(text, 0, 6, PUT_STATIC, "A", "A", "g");
+    CHECKS.fails(text, 8, PUT, "B", "A", "h");
     // A hidden one is found ahead of what is behind it.
-    fails("class A:F{}face class F{hidden int a;}class B<A{}", 8, GET, "B", "B", "a");
-    fails("class A{int a;}class B<A{hidden int a;}", 8, GET, "A", "B", "a");
+    CHECKS.fails("class A:F{}face class F{hidden int a;}class B<A{}", 8, GET, "B", "B", "a");
+    CHECKS.fails("class A{int a;}class B<A{hidden int a;}", 8, GET, "A", "B", "a");
   }
 
   private static void methods() {
     String text = "class A<B{int a();}class B:F{int a();int b();abstract int c();}"
         + "face class F:G{int b();int d();}face class G{int d();int e();abstract int f();}class X{}";
-    links(text, 0, 0, CALL, "X", "A", "a");
-    links(text, 1, 0, CALL, "X", "B", "a");
-    links(text, 1, 1, CALL, "X", "A", "b");
-    links(text, 1, 2, CALL, "X", "A", "c");
-    links(text, 2, 1, CALL, "X", "A", "d");
-    links(text, 3, 1, CALL, "X", "A", "e");
-    links(text, 3, 2, CALL, "X", "A", "f");
-    fails(text, 9, CALL, "X", "A", "x");
-    links(text, 2, 1, CALL_FACE, "X", "F", "d");
-    links(text, 3, 1, CALL_FACE, "X", "F", "e");
-    fails(text, 9, CALL_FACE, "X", "F", "a");
-    fails(text, 9, CALL_FACE, "X", "G", "b");
+    CHECKS.links(text, 0, 0, CALL, "X", "A", "a");
+    CHECKS.links(text, 1, 0, CALL, "X", "B", "a");
+    CHECKS.links(text, 1, 1, CALL, "X", "A", "b");
+    CHECKS.links(text, 1, 2, CALL, "X", "A", "c");
+    CHECKS.links(text, 2, 1, CALL, "X", "A", "d");
+    CHECKS.links(text, 3, 1, CALL, "X", "A", "e");
+    CHECKS.links(text, 3, 2, CALL, "X", "A", "f");
+    CHECKS.fails(text, 9, CALL, "X", "A", "x");
+    CHECKS.links(text, 2, 1, CALL_FACE, "X", "F", "d");
+    CHECKS.links(text, 3, 1, CALL_FACE, "X", "F", "e");
+    CHECKS.fails(text, 9, CALL_FACE, "X", "F", "a");
+    CHECKS.fails(text, 9, CALL_FACE, "X", "G", "b");
     // The KIND is looked at before the METHOD is looked for.
-    fails(text, 4, CALL, "X", "F", "x");
-    fails(text, 4, CALL_FACE, "X", "A", "x");
-    fails(text, 9, CALL_STATIC, "X", "F", "x");
-    fails(text, 9, CALL_ABOVE, "X", "F", "x");
-    fails("class A{int a;}", 9, CALL, "A", "A", "a");
+    CHECKS.fails(text, 4, CALL, "X", "F", "x");
+    CHECKS.fails(text, 4, CALL_FACE, "X", "A", "x");
+    CHECKS.fails(text, 9, CALL_STATIC, "X", "F", "x");
+    CHECKS.fails(text, 9, CALL_ABOVE, "X", "F", "x");
+    CHECKS.fails("class A{int a;}", 9, CALL, "A", "A", "a");
   }
 
   private static void methodTypes() {
     String text = "class A{int a();int a(int);int a(long);int a(A);int a(int,int);int a(int,long);int a(B,A);}";
-    links(text, 0, 0, CALL, "A", "A", "a");
-    links(text, 0, 1, CALL, "A", "A", "a", "int");
-    links(text, 0, 2, CALL, "A", "A", "a", "long");
-    links(text, 0, 3, CALL, "A", "A", "a", "A");
-    links(text, 0, 4, CALL, "A", "A", "a", "int", "int");
-    links(text, 0, 5, CALL, "A", "A", "a", "int", "long");
-    links(text, 0, 6, CALL, "A", "A", "a", "B", "A");
-    fails(text, 9, CALL, "A", "A", "a", "B");
-    fails(text, 9, CALL, "A", "A", "a", "A", "B");
-    fails(text, 9, CALL, "A", "A", "a", "long", "int");
+    CHECKS.links(text, 0, 0, CALL, "A", "A", "a");
+    CHECKS.links(text, 0, 1, CALL, "A", "A", "a", "int");
+    CHECKS.links(text, 0, 2, CALL, "A", "A", "a", "long");
+    CHECKS.links(text, 0, 3, CALL, "A", "A", "a", "A");
+    CHECKS.links(text, 0, 4, CALL, "A", "A", "a", "int", "int");
+    CHECKS.links(text, 0, 5, CALL, "A", "A", "a", "int", "long");
+    CHECKS.links(text, 0, 6, CALL, "A", "A", "a", "B", "A");
+    CHECKS.fails(text, 9, CALL, "A", "A", "a", "B");
+    CHECKS.fails(text, 9, CALL, "A", "A", "a", "A", "B");
+    CHECKS.fails(text, 9, CALL, "A", "A", "a", "long", "int");
     LinkModels x = Checks.model(text);
     x.use(CALL, 65, 65, 'a', 1, 2, 0);
     CHECKS.due("void is no type of a use", x.link(0, 0), -19);
@@ -216,109 +191,103 @@ public final class UsesTest {
   private static void methodAccess() {
     String text = "class A{hidden int a();hidden static int b();static int c();int d();}class B<A:F{}"
         + "face class F{hidden int a();static int e();hidden int f();int g();}";
-    links(text, 0, 0, CALL, "A", "B", "a");
-    fails(text, 8, CALL, "B", "B", "a");
-    fails(text, 8, CALL_STATIC, "B", "B", "a");
-    fails(text, 4, CALL_STATIC, "A", "B", "a");
-    fails(text, 8, CALL, "B", "A", "b");
-    fails(text, 4, CALL, "A", "A", "b");
-    links(text, 0, 1, CALL_STATIC, "A", "A", "b");
-    links(text, 0, 2, CALL_STATIC, "B", "B", "c");
-    fails(text, 4, CALL, "B", "B", "c");
-    fails(text, 4, CALL_ABOVE, "B", "B", "c");
-    fails(text, 4, CALL_STATIC, "B", "B", "d");
+    CHECKS.links(text, 0, 0, CALL, "A", "B", "a");
+    CHECKS.fails(text, 8, CALL, "B", "B", "a");
+    CHECKS.fails(text, 8, CALL_STATIC, "B", "B", "a");
+    CHECKS.fails(text, 4, CALL_STATIC, "A", "B", "a");
+    CHECKS.fails(text, 8, CALL, "B", "A", "b");
+    CHECKS.fails(text, 4, CALL, "A", "A", "b");
+    CHECKS.links(text, 0, 1, CALL_STATIC, "A", "A", "b");
+    CHECKS.links(text, 0, 2, CALL_STATIC, "B", "B", "c");
+    CHECKS.fails(text, 4, CALL, "B", "B", "c");
+    CHECKS.fails(text, 4, CALL_ABOVE, "B", "B", "c");
+    CHECKS.fails(text, 4, CALL_STATIC, "B", "B", "d");
     // In a face itself all are found, but not from what has it.
-    links(text, 2, 1, CALL_STATIC, "A", "F", "e");
-    fails(text, 4, CALL_FACE, "A", "F", "e");
-    fails(text, 9, CALL_STATIC, "A", "B", "e");
-    fails(text, 8, CALL_FACE, "A", "F", "f");
-    links(text, 2, 2, CALL_FACE, "F", "F", "f");
-    fails(text, 9, CALL, "F", "B", "f");
-    links(text, 2, 3, CALL, "A", "B", "g");
+    CHECKS.links(text, 2, 1, CALL_STATIC, "A", "F", "e");
+    CHECKS.fails(text, 4, CALL_FACE, "A", "F", "e");
+    CHECKS.fails(text, 9, CALL_STATIC, "A", "B", "e");
+    CHECKS.fails(text, 8, CALL_FACE, "A", "F", "f");
+    CHECKS.links(text, 2, 2, CALL_FACE, "F", "F", "f");
+    CHECKS.fails(text, 9, CALL, "F", "B", "f");
+    CHECKS.links(text, 2, 3, CALL, "A", "B", "g");
   }
 
   private static void methodsOfFaces() {
     String two = "face class F{abstract int a();int b();int c();abstract int d();}"
         + "face class G{int a();abstract int b();int c();abstract int d();}class X:F,G{}class Y:G,F{}";
-    links(two, 1, 0, CALL, "X", "X", "a");
-    links(two, 0, 1, CALL, "X", "Y", "b");
-    links(two, 0, 2, CALL, "X", "X", "c");
-    links(two, 1, 2, CALL, "X", "Y", "c");
-    links(two, 0, 3, CALL, "X", "X", "d");
-    links(two, 1, 3, CALL, "X", "Y", "d");
+    CHECKS.links(two, 1, 0, CALL, "X", "X", "a");
+    CHECKS.links(two, 0, 1, CALL, "X", "Y", "b");
+    CHECKS.links(two, 0, 2, CALL, "X", "X", "c");
+    CHECKS.links(two, 1, 2, CALL, "X", "Y", "c");
+    CHECKS.links(two, 0, 3, CALL, "X", "X", "d");
+    CHECKS.links(two, 1, 3, CALL, "X", "Y", "d");
     // What another such FACE is OF is out, even where the nearer one has no BODY.
     String near = "face class F{int a();}face class G:F{abstract int a();}face class H:G{}class X:F,H{}class Y:F{}"
         + "class Z<Y:H{}face class K{int a();}class W:F,G,K{}";
-    links(near, 1, 0, CALL, "X", "X", "a");
-    links(near, 1, 0, CALL_FACE, "X", "H", "a");
-    links(near, 1, 0, CALL, "X", "Z", "a");
-    links(near, 6, 0, CALL, "X", "W", "a");
+    CHECKS.links(near, 1, 0, CALL, "X", "X", "a");
+    CHECKS.links(near, 1, 0, CALL_FACE, "X", "H", "a");
+    CHECKS.links(near, 1, 0, CALL, "X", "Z", "a");
+    CHECKS.links(near, 6, 0, CALL, "X", "W", "a");
     // A hidden or a static one of a nearer FACE is none.
     String hidden = "face class F{int a();int b();}face class G:F{hidden int a();static int b();}class X:G{}";
-    links(hidden, 0, 0, CALL, "X", "X", "a");
-    links(hidden, 0, 1, CALL, "X", "X", "b");
-    fails(hidden, 4, CALL_FACE, "X", "G", "b");
+    CHECKS.links(hidden, 0, 0, CALL, "X", "X", "a");
+    CHECKS.links(hidden, 0, 1, CALL, "X", "X", "b");
+    CHECKS.fails(hidden, 4, CALL_FACE, "X", "G", "b");
     // FACE by FACE: of the OWNER, each ahead of its own, then of what is ABOVE.
     String order = "face class A{abstract int m();}face class B{abstract int m();abstract int n();}face class C:B{}"
         + "face class D{abstract int m();abstract int n();}class X:A{}class Y<X:C,D{}class Z<X:D,C{}";
-    links(order, 1, 0, CALL, "X", "Y", "m");
-    links(order, 3, 0, CALL, "X", "Z", "m");
-    links(order, 1, 1, CALL, "X", "Y", "n");
-    links(order, 0, 0, CALL, "X", "X", "m");
+    CHECKS.links(order, 1, 0, CALL, "X", "Y", "m");
+    CHECKS.links(order, 3, 0, CALL, "X", "Z", "m");
+    CHECKS.links(order, 1, 1, CALL, "X", "Y", "n");
+    CHECKS.links(order, 0, 0, CALL, "X", "X", "m");
     // A class ABOVE comes before any FACE.
     String above = "face class F{int a();}class X{int a();}class Y<X:F{}";
-    links(above, 1, 0, CALL, "X", "Y", "a");
+    CHECKS.links(above, 1, 0, CALL, "X", "Y", "a");
   }
 
   private static void calledAbove() {
     String text = "class A{abstract int a();int b();hidden int c();}class B<A:F,G{}"
         + "face class F{abstract int d();int e();}face class G{abstract int d();int e();}";
-    fails(text, 10, CALL_ABOVE, "B", "B", "a");
-    links(text, 0, 1, CALL_ABOVE, "B", "B", "b");
-    fails(text, 8, CALL_ABOVE, "B", "B", "c");
-    fails(text, 10, CALL_ABOVE, "B", "B", "d");
-    links(text, 2, 1, CALL_ABOVE, "B", "B", "e");
-    links(text, 2, 1, CALL_ABOVE, "B", "F", "e");
-    links(text, 0, 0, CALL, "B", "B", "a");
-  }
-
-  private static void done(LinkModels x, int use, String receiver, int want, int place) {
-    CHECKS.due("done " + use + " " + receiver, x.done(0, use, Checks.name(receiver)), want);
-    int member = x.doneMember(0, use, Checks.name(receiver));
-    CHECKS.due("doneMember " + use + " " + receiver, member, want < 0 ? want : place);
+    CHECKS.fails(text, 10, CALL_ABOVE, "B", "B", "a");
+    CHECKS.links(text, 0, 1, CALL_ABOVE, "B", "B", "b");
+    CHECKS.fails(text, 8, CALL_ABOVE, "B", "B", "c");
+    CHECKS.fails(text, 10, CALL_ABOVE, "B", "B", "d");
+    CHECKS.links(text, 2, 1, CALL_ABOVE, "B", "B", "e");
+    CHECKS.links(text, 2, 1, CALL_ABOVE, "B", "F", "e");
+    CHECKS.links(text, 0, 0, CALL, "B", "B", "a");
   }
 
   private static void doneByClasses() {
     LinkModels x = Checks.model("class A{int x;int a();hidden int b();int c();abstract int d();}"
         + "class B<A{int a();int b();static int c();abstract int d();}class C<B{hidden int a();int c();int d();}"
         + "class D{}class E<Z{}class G<G{}");
-    int a = use(x, CALL, "A", "A", "a");
-    done(x, a, "A", 0, 1);
-    done(x, a, "B", 1, 0);
+    int a = Checks.use(x, CALL, "A", "A", "a");
+    CHECKS.done(x, a, "A", 0, 1);
+    CHECKS.done(x, a, "B", 1, 0);
     // A hidden one of the same WORD is passed over.
-    done(x, a, "C", 1, 0);
-    done(x, a, "D", -14, 0);
-    done(x, a, "E", -12, 0);
-    done(x, a, "G", -13, 0);
-    done(x, a, "Z", -11, 0);
-    int b = use(x, CALL, "A", "A", "b");
-    done(x, b, "C", 0, 2);
-    done(x, b, "D", -14, 0);
-    int c = use(x, CALL, "A", "A", "c");
-    done(x, c, "B", 0, 3);
-    done(x, c, "C", 2, 1);
-    int d = use(x, CALL, "A", "A", "d");
-    done(x, d, "A", -20, 0);
-    done(x, d, "B", -20, 0);
-    done(x, d, "C", 2, 2);
-    int e = use(x, CALL, "A", "B", "a");
-    done(x, e, "A", -14, 0);
-    int f = use(x, CALL, "D", "A", "b");
-    done(x, f, "Z", -18, 0);
+    CHECKS.done(x, a, "C", 1, 0);
+    CHECKS.done(x, a, "D", -14, 0);
+    CHECKS.done(x, a, "E", -12, 0);
+    CHECKS.done(x, a, "G", -13, 0);
+    CHECKS.done(x, a, "Z", -11, 0);
+    int b = Checks.use(x, CALL, "A", "A", "b");
+    CHECKS.done(x, b, "C", 0, 2);
+    CHECKS.done(x, b, "D", -14, 0);
+    int c = Checks.use(x, CALL, "A", "A", "c");
+    CHECKS.done(x, c, "B", 0, 3);
+    CHECKS.done(x, c, "C", 2, 1);
+    int d = Checks.use(x, CALL, "A", "A", "d");
+    CHECKS.done(x, d, "A", -20, 0);
+    CHECKS.done(x, d, "B", -20, 0);
+    CHECKS.done(x, d, "C", 2, 2);
+    int e = Checks.use(x, CALL, "A", "B", "a");
+    CHECKS.done(x, e, "A", -14, 0);
+    int f = Checks.use(x, CALL, "D", "A", "b");
+    CHECKS.done(x, f, "Z", -18, 0);
     int[] others = {GET, PUT, GET_STATIC, PUT_STATIC, CALL_STATIC, CALL_ABOVE, MAKE, CAST};
     for (int kind : others) {
-      int use = use(x, kind, "Z", "A", "a");
-      done(x, use, "A", LinkModels.STATE, 0);
+      int use = Checks.use(x, kind, "Z", "A", "a");
+      CHECKS.done(x, use, "A", LinkModels.STATE, 0);
       CHECKS.due("unknown first", x.done(1, use, 65), LinkModels.UNKNOWN);
     }
   }
@@ -328,39 +297,39 @@ public final class UsesTest {
         + "face class H:F{int a();}class A:F{}class B:G{}class C:G,H{}class D<A:H{}class E<A{int a();}"
         + "class K:H,L{}face class L:F{int a();}class M<K{hidden int a();}class N<M{abstract int a();}"
         + "face class O:F{hidden int a();static int b();}");
-    int a = use(x, CALL_FACE, "A", "F", "a");
-    done(x, a, "A", 0, 0);
+    int a = Checks.use(x, CALL_FACE, "A", "F", "a");
+    CHECKS.done(x, a, "A", 0, 0);
     // G's has no BODY, and is nearer than F's.
-    done(x, a, "B", -20, 0);
+    CHECKS.done(x, a, "B", -20, 0);
     // Of G and H, none OF the other, H alone has a BODY.
-    done(x, a, "C", 2, 0);
-    done(x, a, "D", 2, 0);
-    done(x, a, "E", 7, 0);
-    done(x, a, "K", -14, 0);
-    done(x, a, "M", -14, 0);
-    done(x, a, "N", -20, 0);
+    CHECKS.done(x, a, "C", 2, 0);
+    CHECKS.done(x, a, "D", 2, 0);
+    CHECKS.done(x, a, "E", 7, 0);
+    CHECKS.done(x, a, "K", -14, 0);
+    CHECKS.done(x, a, "M", -14, 0);
+    CHECKS.done(x, a, "N", -20, 0);
     // A face may be asked for what is done on it, too.
-    done(x, a, "F", 0, 0);
-    done(x, a, "G", -20, 0);
-    done(x, a, "O", 0, 0);
-    int b = use(x, CALL_FACE, "A", "F", "b");
-    done(x, b, "A", -20, 0);
-    done(x, b, "B", 1, 1);
-    done(x, b, "K", -20, 0);
-    done(x, b, "O", -20, 0);
-    int c = use(x, CALL, "A", "K", "a");
+    CHECKS.done(x, a, "F", 0, 0);
+    CHECKS.done(x, a, "G", -20, 0);
+    CHECKS.done(x, a, "O", 0, 0);
+    int b = Checks.use(x, CALL_FACE, "A", "F", "b");
+    CHECKS.done(x, b, "A", -20, 0);
+    CHECKS.done(x, b, "B", 1, 1);
+    CHECKS.done(x, b, "K", -20, 0);
+    CHECKS.done(x, b, "O", -20, 0);
+    int c = Checks.use(x, CALL, "A", "K", "a");
     CHECKS.due("links to the first one", x.link(0, c), 2);
-    done(x, c, "K", -14, 0);
-    done(x, c, "A", -14, 0);
-    int d = use(x, CALL_FACE, "O", "O", "a");
-    done(x, d, "O", 12, 0);
-    done(x, d, "F", -14, 0);
+    CHECKS.done(x, c, "K", -14, 0);
+    CHECKS.done(x, c, "A", -14, 0);
+    int d = Checks.use(x, CALL_FACE, "O", "O", "a");
+    CHECKS.done(x, d, "O", 12, 0);
+    CHECKS.done(x, d, "F", -14, 0);
   }
 
   private static void compiles() {
     LinkModels x = Checks.model("class A{static final int a=7;static final int b;int c;}",
         "class A{static final int a;static final int b=0;}", "class A{int a;}", "class A{static final int a=999999;}");
-    int a = use(x, GET_STATIC, "A", "A", "a");
+    int a = Checks.use(x, GET_STATIC, "A", "A", "a");
     CHECKS.due("copied at first", x.copied(a), LinkModels.NONE);
     CHECKS.due("compile", x.compile(0, a), 1);
     CHECKS.due("copied", x.copied(a), 7);
@@ -371,25 +340,25 @@ public final class UsesTest {
     CHECKS.due("compile unknown", x.compile(4, a), LinkModels.UNKNOWN);
     CHECKS.due("compile without one", x.compile(1, a), 0);
     CHECKS.due("what was copied is gone", x.copied(a), LinkModels.NONE);
-    int b = use(x, GET_STATIC, "A", "A", "b");
+    int b = Checks.use(x, GET_STATIC, "A", "A", "b");
     CHECKS.due("compile 0", x.compile(1, b), 1);
     CHECKS.due("copied 0", x.copied(b), 0);
     CHECKS.due("the other use has none", x.copied(a), LinkModels.NONE);
     CHECKS.due("compile none", x.compile(2, b), -17);
     int[] others = {GET, PUT, PUT_STATIC, CALL, CALL_STATIC, CALL_ABOVE, CALL_FACE, MAKE, CAST};
     for (int kind : others) {
-      int use = use(x, kind, "A", "A", "a");
+      int use = Checks.use(x, kind, "A", "A", "a");
       CHECKS.due("compile of kind " + kind, x.compile(0, use), LinkModels.STATE);
       CHECKS.due("copied of kind " + kind, x.copied(use), LinkModels.NONE);
     }
-    int far = use(x, GET_STATIC, "Z", "A", "a");
+    int far = Checks.use(x, GET_STATIC, "Z", "A", "a");
     CHECKS.due("compile of no caller", x.compile(0, far), -11);
   }
 
   private static void stale() {
     LinkModels x = Checks.model("class A{static final int a=7;}class B<A{}", "class B{int c;static final int a=07;}",
         "class B{static final int a=8;}", "class B{static final int a;}", "class B{hidden int a;}");
-    int a = use(x, GET_STATIC, "B", "B", "a");
+    int a = Checks.use(x, GET_STATIC, "B", "B", "a");
     CHECKS.due("nothing copied", x.stale(0, a), LinkModels.STATE);
     CHECKS.due("unknown first", x.stale(5, a), LinkModels.UNKNOWN);
     CHECKS.due("compile", x.compile(0, a), 1);
@@ -407,15 +376,15 @@ public final class UsesTest {
   private static void changed() {
     LinkModels x = Checks.model("class A<B{static final int a=1;int b();int d;}class B{int c();int e();}",
         "class B{int c();int b();}class A<B{static final int a=2;int e();int d;hidden int f;}");
-    use(x, GET_STATIC, "A", "A", "a");
-    use(x, CALL, "A", "A", "b");
-    use(x, CALL, "A", "A", "c");
-    use(x, GET, "A", "A", "d");
-    use(x, CALL, "A", "A", "e");
-    use(x, CAST, "A", "B", "");
-    use(x, MAKE, "B", "A", "");
-    use(x, GET, "B", "A", "f");
-    use(x, GET, "Z", "A", "f");
+    Checks.use(x, GET_STATIC, "A", "A", "a");
+    Checks.use(x, CALL, "A", "A", "b");
+    Checks.use(x, CALL, "A", "A", "c");
+    Checks.use(x, GET, "A", "A", "d");
+    Checks.use(x, CALL, "A", "A", "e");
+    Checks.use(x, CAST, "A", "B", "");
+    Checks.use(x, MAKE, "B", "A", "");
+    Checks.use(x, GET, "B", "A", "f");
+    Checks.use(x, GET, "Z", "A", "f");
     int[] want = {1, 4, 7, LinkModels.NONE, LinkModels.NONE};
     for (int i = 0; i < want.length; i++) {
       CHECKS.due("changed " + i, x.changed(0, 1, i), want[i]);
@@ -425,11 +394,11 @@ public final class UsesTest {
     CHECKS.due("the same", x.changed(0, 0, 0), LinkModels.NONE);
     // The place alone, in the same class.
     LinkModels y = Checks.model("class A{int a;int b;}", "class A{int b;int a;}", "class C{}class A{int a;int b;}");
-    use(y, GET, "A", "A", "b");
+    Checks.use(y, GET, "A", "A", "b");
     CHECKS.due("another place", y.changed(0, 1, 0), 0);
     CHECKS.due("a class by name, not by place", y.changed(0, 2, 0), LinkModels.NONE);
     LinkModels z = Checks.model("class A{int a;}", "class A{}", "");
-    use(z, GET, "A", "A", "a");
+    Checks.use(z, GET, "A", "A", "a");
     CHECKS.due("an error and none", z.changed(0, 1, 0), 0);
     CHECKS.due("none and an error", z.changed(1, 0, 0), 0);
     CHECKS.due("another error", z.changed(1, 2, 0), 0);
@@ -440,17 +409,17 @@ public final class UsesTest {
     CHECKS.due("no uses", Checks.share(x, 0), 2);
     CHECKS.due("no build", Checks.share(x, 2), 1);
     CHECKS.due("no build", Checks.share(x, -1), 1);
-    use(x, GET, "A", "A", "a");
+    Checks.use(x, GET, "A", "A", "a");
     CHECKS.due("all do", Checks.share(x, 0), 2);
     CHECKS.due("none do", Checks.share(x, 1), 1000);
-    use(x, GET, "A", "A", "b");
+    Checks.use(x, GET, "A", "A", "b");
     CHECKS.due("1 by 1", Checks.share(x, 0), 1001);
-    use(x, CAST, "A", "A", "b");
-    use(x, MAKE, "A", "A", "b");
-    use(x, PUT, "A", "A", "a");
+    Checks.use(x, CAST, "A", "A", "b");
+    Checks.use(x, MAKE, "A", "A", "b");
+    Checks.use(x, PUT, "A", "A", "a");
     CHECKS.due("4 by 1", Checks.share(x, 0), 1004);
-    use(x, CALL, "A", "A", "a");
-    use(x, CALL, "A", "A", "a");
+    Checks.use(x, CALL, "A", "A", "a");
+    Checks.use(x, CALL, "A", "A", "a");
     CHECKS.due("4 by 3, cut", Checks.share(x, 0), 1001);
     CHECKS.due("0 by 7", Checks.share(x, 1), 1000);
   }
@@ -465,17 +434,17 @@ public final class UsesTest {
     }
     text.append("face class P{int a();static int b;}");
     LinkModels x = Checks.model(text.toString());
-    use(x, CALL_FACE, "A", "A", "a");
-    use(x, GET_STATIC, "A", "A", "b");
-    use(x, GET_STATIC, "A", "A", "c");
+    Checks.use(x, CALL_FACE, "A", "A", "a");
+    Checks.use(x, GET_STATIC, "A", "A", "b");
+    Checks.use(x, GET_STATIC, "A", "A", "c");
     CHECKS.due("method", x.link(0, 0), 15);
     CHECKS.due("field", x.member(0, 1), 1);
     CHECKS.due("no field", x.link(0, 2), -17);
-    done(x, 0, "A", 15, 0);
+    CHECKS.done(x, 0, "A", 15, 0);
     LinkModels y = Checks.model("face class A:B,Z{}face class B:C,C,C{}face class C:D,D,D{}face class D:E,E,E{}"
         + "face class E{}face class Z{static int a;int b();}");
-    use(y, GET_STATIC, "A", "A", "a");
-    use(y, CALL_FACE, "A", "A", "b");
+    Checks.use(y, GET_STATIC, "A", "A", "a");
+    Checks.use(y, CALL_FACE, "A", "A", "b");
     CHECKS.due("field behind many ways", y.link(0, 0), 5);
     CHECKS.due("method behind many ways", y.member(0, 1), 1);
   }

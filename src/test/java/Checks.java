@@ -105,14 +105,17 @@ final class Checks {
     due("doneMember " + use + " " + receiver, member, want < 0 ? want : place);
   }
 
-  /** 1 for an IllegalArgumentException, 2 for an ArithmeticException, else 1000 more than the share. */
+  /**
+   * 1 for an IllegalArgumentException, 2 for an ArithmeticException, else 1000 more than the share; 3 for the
+   * ArithmeticException that the machine throws of itself, which is not to happen.
+   */
   static int share(LinkModels x, int build) {
     try {
       return 1000 + x.share(build);
     } catch (IllegalArgumentException e) {
       return 1;
     } catch (ArithmeticException e) {
-      return 2;
+      return "/ by zero".equals(e.getMessage()) ? 3 : 2;
     }
   }
 }

@@ -51,6 +51,14 @@ public final class ClassesEdgesTest {
     CHECKS.due(text + " defined " + name, x.defined(0, Checks.name(name)), want);
   }
 
+  private static String classes(int count) {
+    StringBuilder text = new StringBuilder();
+    for (int i = 0; i < count; i++) {
+      text.append("class C").append(i).append("{}");
+    }
+    return text.toString();
+  }
+
   /** "1 NO CLASS: it is not there." */
   private static void noClass() {
     defined("", "A", -11);
@@ -205,6 +213,8 @@ public final class ClassesEdgesTest {
     defined("class A:F,B,Z{}face class F{}class B{}", "A", -14);
     defined("class A:F,F,B{}face class F{}class B{}", "A", -14);
     defined("class A:F,F,F{}face class F{}", "A", 1);
+    defined("class A:F,F,F{}class B:Z{}face class F{}", "A", 1);
+    defined("face class F{}" + classes(14)+ "class A:F,F,F{}", "A", 1);
   }
 
   /** "UNKNOWN" of defined */
@@ -392,6 +402,8 @@ public final class ClassesEdgesTest {
     is("class A:F{}face class F{}", 'F', 'A', 0);
     is("class A<C{}class B<C{}class C{}", 'A', 'B', 0);
     is("class A:F{}class B:F{}face class F{}", 'A', 'B', 0);
+    // The FACES of the next class are none of its own.
+    is("class A:F,F,F{}class B:G{}face class F{}face class G{}", 'A', 'G', 0);
   }
 
   /** "the ERROR of the first" */

@@ -262,6 +262,10 @@ public final class LinkEdgesTest {
       CHECKS.fails("class A{int aa;}", 7, kind, "A", "A", "a");
       CHECKS.fails("class A{int a;}", 7, kind, "A", "A", "");
     }
+    // Classes that the OWNER does not come to have it in vain, wherever they stand.
+    String others = "class X{int a;}class A:F,F,F{}class B:G{}face class F{}face class G{int a;}class Y<A{int a;}";
+    CHECKS.fails(others, 7, GET, "A", "A", "a");
+    CHECKS.fails(others, 7, GET, "A", "F", "a");
   }
 
   /** "8 ACCESS: it is hidden, and the CALLER is another class than has it." */
@@ -417,6 +421,8 @@ public final class LinkEdgesTest {
     CHECKS.links("class A<B:F{}class B:G{}face class F:G{abstract int a();}face class G{int a();}", 2, 0, CALL, "A",
         "A", "a");
     CHECKS.links("class A<B:G{}class B:F{}face class F:G{int a();}face class G{int a();}", 2, 0, CALL, "A", "A", "a");
+    CHECKS.links("face class F:G{abstract int a();}class A:G,F{}face class G{int a();}", 0, 0, CALL, "A", "A", "a");
+    CHECKS.links("face class G{int a();}class A:G,F{}face class F:G{abstract int a();}", 2, 0, CALL, "A", "A", "a");
     // A FACE that has none of the WORD and types is no such FACE.
     CHECKS.links("class A:G,F{}face class F:G{int a(int);int b();}face class G{int a();}", 2, 0, CALL, "A", "A", "a");
     // It is OF itself, but no other class: a FACE told twice stays.
@@ -462,6 +468,11 @@ public final class LinkEdgesTest {
       CHECKS.fails("face class A{}", 9, kind, "A", "A", "a");
       CHECKS.fails("face class A{int a(int);}face class B:A{int a();}", 9, kind, "A", "A", "a");
     }
+    // Classes that the OWNER does not come to have it in vain, wherever they stand.
+    String others = "class A:F,F,F{}class B:G{}face class F{}face class G{int a();}class Y<A{int a();}";
+    CHECKS.fails("class X{int a();}" + others, 9, CALL, "A", "A", "a");
+    CHECKS.fails("face class X{int a();}" + others, 9, CALL, "A", "A", "a");
+    CHECKS.fails("face class X{int a();}" + others, 9, CALL_FACE, "A", "F", "a");
   }
 
   /** "by WORD and types": how many, and each of them. */

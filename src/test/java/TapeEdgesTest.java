@@ -29,6 +29,7 @@ public final class TapeEdgesTest {
     buildFaultAnswer();
     buildFaultUsesTheTapeUp();
     buildFaultChangesNothing();
+    buildFaultLeavesNothing();
     buildFull();
     buildFullAheadOfFaults();
     toldBytes();
@@ -384,6 +385,20 @@ public final class TapeEdgesTest {
     CHECKS.due("copied", x.copied(0), 5);
     CHECKS.due("stale", x.stale(0, 0), 0);
     CHECKS.due("no build of the fault", x.count(1, 0), LinkModels.UNKNOWN);
+  }
+
+  /** "they change nothing": the next BUILD has nothing of a text that was refused. */
+  private static void buildFaultLeavesNothing() {
+    LinkModels x = new LinkModels();
+    String refused = "class A<B:F,F,F{int a;int b();}class B{}face class F{}class G{}";
+    CHECKS.due("refused", Checks.build(x, refused + "."), Checks.fault(1, refused.length()));
+    CHECKS.due("the next", Checks.build(x, "class A{}class B{}face class F{}"), 0);
+    CHECKS.due("classes", x.count(0, 0), 3);
+    CHECKS.due("fields", x.count(0, 1), 0);
+    CHECKS.due("methods", x.count(0, 2), 0);
+    CHECKS.due("nothing above", x.is(0, 'A', 'B'), 0);
+    CHECKS.due("no face", x.is(0, 'A', 'F'), 0);
+    CHECKS.due("no class more", x.defined(0, 'G'), -11);
   }
 
   /** "FULL", and THE TAPE is used up. */

@@ -214,7 +214,7 @@ public final class ClassesEdgesTest {
     defined("class A:F,F,B{}face class F{}class B{}", "A", -14);
     defined("class A:F,F,F{}face class F{}", "A", 1);
     defined("class A:F,F,F{}class B:Z{}face class F{}", "A", 1);
-    defined("face class F{}" + classes(14)+ "class A:F,F,F{}", "A", 1);
+    defined("face class F{}" + classes(14) + "class A:F,F,F{}", "A", 1);
   }
 
   /** "UNKNOWN" of defined */

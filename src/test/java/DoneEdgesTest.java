@@ -20,6 +20,7 @@ public final class DoneEdgesTest {
     doneClassesAheadOfFaces();
     doneOfFacesOfReceiver();
     doneConflict();
+    doneNoConflict();
     doneOneBody();
     doneNoneWithBody();
     doneWithoutBody();
@@ -209,6 +210,17 @@ public final class DoneEdgesTest {
     // One FACE told more than once is one.
     CHECKS.done(x, a, "N", 1, 0);
     CHECKS.done(x, a, "O", 1, 0);
+  }
+
+  /** "of FACES .. of the RECEIVER: 4 CONFLICT": no other FACE makes one. */
+  private static void doneNoConflict() {
+    LinkModels x = Checks.model("face class X:F{int a();}class A:F{}face class F{int a();}class B<A:X{}");
+    int a = Checks.use(x, CALL_FACE, "F", "F", "a");
+    CHECKS.done(x, a, "A", 2, 0);
+    LinkModels y = Checks.model("face class X{int a();}class A:F{}face class F{int a();}class B<A:X{}");
+    int b = Checks.use(y, CALL_FACE, "F", "F", "a");
+    CHECKS.done(y, b, "A", 2, 0);
+    CHECKS.done(y, b, "B", -14, 0);
   }
 
   /** "one alone that has: that" */

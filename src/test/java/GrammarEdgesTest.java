@@ -411,6 +411,8 @@ public final class GrammarEdgesTest {
     CHECKS.bad(3, "class A{int a(int);int a(int^);}");
     CHECKS.bad(3, "class A{int a(int,A);static A a(int,A^);}");
     CHECKS.bad(3, "class A{int a(A);int a(A^)");
+    CHECKS.bad(3, "class A{int a();int b(A,B);int a(^);}");
+    CHECKS.bad(3, "class A{int a(A);int b(A,B);int a(A^);}");
     CHECKS.good("class A{int a();int a(int);int a(int,int);int a(long,int);int a(int,long);int a(A);int a(A,A);}");
     CHECKS.good("class A{int a;int a();}");
     CHECKS.good("class A{int a();int b();}class B<A{int a();}");

@@ -485,6 +485,11 @@ public final class LinkEdgesTest {
     CHECKS.fails(text, 9, CALL, "A", "A", "a", "int", "long");
     CHECKS.fails(text, 9, CALL, "A", "A", "a", "A");
     CHECKS.fails(text, 9, CALL, "A", "A", "b", "int");
+    // The types of a METHOD are none of the next one's.
+    String fewer = "class A{int a(B,C);int a(B);int a();}";
+    CHECKS.links(fewer, 0, 0, CALL, "A", "A", "a", "B", "C");
+    CHECKS.links(fewer, 0, 1, CALL, "A", "A", "a", "B");
+    CHECKS.links(fewer, 0, 2, CALL, "A", "A", "a");
     // A type is the NAME that is told, whatever classes there are.
     CHECKS.fails("class A<B{int a(B);}class B{}", 9, CALL, "A", "A", "a", "A");
     CHECKS.links("class A{int a(Z);}", 0, 0, CALL, "A", "A", "a", "Z");

@@ -441,11 +441,13 @@ public final class UsesTest {
     CHECKS.due("field", x.member(0, 1), 1);
     CHECKS.due("no field", x.link(0, 2), -17);
     CHECKS.done(x, 0, "A", 15, 0);
-    LinkModels y = Checks.model("face class A:B,Z{}face class B:C,C,C{}face class C:D,D,D{}face class D:E,E,E{}"
-        + "face class E{}face class Z{static int a;int b();}");
+    LinkModels y = Checks.model("face class A:B,Z{}face class B:C,C,C{static int c;}face class C:D,D,D{}"
+        + "face class D:E,E,E{}face class E{}face class Z{static int a;int b();}");
     Checks.use(y, GET_STATIC, "A", "A", "a");
     Checks.use(y, CALL_FACE, "A", "A", "b");
     CHECKS.due("field behind many ways", y.link(0, 0), 5);
     CHECKS.due("method behind many ways", y.member(0, 1), 1);
+    Checks.use(y, GET_STATIC, "A", "B", "c");
+    CHECKS.due("the next class is as it was", y.link(0, 2), 1);
   }
 }

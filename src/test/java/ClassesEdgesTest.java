@@ -110,6 +110,7 @@ public final class ClassesEdgesTest {
   /** "one comes from it to itself": who only comes to a circle is not in one. */
   private static void circleLedTo() {
     defined("class A<B{}class B<B{}", "A", -12);
+    defined("class B<B{}class A<B{}", "A", -12);
     defined("class A:B{}face class B:C{}face class C:B{}", "A", -12);
     defined("class A<B{}class B<C{}class C<C{}", "A", -12);
   }

@@ -212,6 +212,8 @@ public final class TapeEdgesTest {
     CHECKS.bad(1, "class A{static final int a=^0000001;}");
     CHECKS.bad(1, "class A{static final int a=^4294967296;}");
     CHECKS.bad(1, "class A{static final int a=^18446744073709551616;}");
+    // 59 is the byte of a sign that could stand there.
+    CHECKS.bad(1, "class A{int a^0000059}");
     LinkModels x = Checks.model("class A{static final int a=999999;static final int b=000019;static final int c=0;}");
     int[] want = {999999, 19, 0};
     for (int i = 0; i < want.length; i++) {
